@@ -1,0 +1,135 @@
+/** Promise 2: plug. */
+final class PlugTest {
+    private static final Check check = new Check();
+
+    public static void main(String[] args) {
+        takesWhatIsAsSaid();
+        refusesWhatIsNot();
+        knowsWhichPortsAreThere();
+        refusesAFullPort();
+        changesNothingWhenItRefuses();
+        bringsBlocksOfZero();
+        marksOwnPort();
+        bringsACodelessKeyboard();
+        closesThePort();
+        check.end();
+    }
+
+    private static void device(int kind, int a, int b, boolean want) {
+        check.due("plug(0, " + kind + ", " + a + ", " + b + ")", new PluggedBus().plug(0, kind, a, b), want);
+    }
+
+    private static void takesWhatIsAsSaid() {
+        device(1, 1, 0, true);
+        device(1, 8, 3, true);
+        device(2, 1, 1, true);
+        device(2, 8, 60, true);
+        device(3, 0, 0, true);
+    }
+
+    private static void refusesWhatIsNot() {
+        device(1, 0, 0, false);
+        device(1, 9, 0, false);
+        device(1, 1, -1, false);
+        device(1, 1, 4, false);
+        device(2, 0, 1, false);
+        device(2, 9, 1, false);
+        device(2, 1, 0, false);
+        device(2, 1, 61, false);
+        device(3, 1, 0, false);
+        device(3, 0, 1, false);
+        device(0, 1, 1, false);
+        device(4, 1, 1, false);
+        device(Integer.MIN_VALUE, 1, 1, false);
+        device(1, Integer.MAX_VALUE, 1, false);
+        device(2, 1, Integer.MIN_VALUE, false);
+    }
+
+    private static void knowsWhichPortsAreThere() {
+        int[] never = {-1, 6, Integer.MIN_VALUE, Integer.MAX_VALUE};
+        for (int port : never) {
+            check.due("plug into port " + port, new PluggedBus().plug(port, 1, 1, 0), false);
+        }
+        PluggedBus bus = new PluggedBus();
+        for (int port = 2; port < 6; port++) {
+            check.due("no hub: port " + port, bus.plug(port, 1, 1, 0), false);
+        }
+        bus.plug(0, Buses.DISK, 1, 0);
+        check.due("a disk is no hub", bus.plug(2, 1, 1, 0), false);
+        bus.plug(1, Buses.HUB, 0, 0);
+        check.due("the other hub's port 2", bus.plug(2, 1, 1, 0), false);
+        check.due("the other hub's port 3", bus.plug(3, 1, 1, 0), false);
+        check.due("this hub's port 4", bus.plug(4, 3, 0, 0), true);
+        check.due("this hub's port 5", bus.plug(5, 1, 1, 0), true);
+        bus.unplug(0);
+        bus.plug(0, Buses.HUB, 0, 0);
+        check.due("a hub in port 0: port 2", bus.plug(2, 1, 1, 0), true);
+        check.due("a hub in port 0: port 3", bus.plug(3, 2, 1, 1), true);
+    }
+
+    private static void refusesAFullPort() {
+        PluggedBus bus = new PluggedBus();
+        bus.plug(0, Buses.DISK, 2, 0);
+        check.due("a full port", bus.plug(0, Buses.KEYS, 1, 1), false);
+        bus.run(1);
+        check.due("still the disk: load", bus.load(), 0);
+        check.due("still the disk: write", bus.write(0, 0, 3, 1), 0);
+        check.due("still of 2 blocks", bus.order(0), 4);
+    }
+
+    private static void changesNothingWhenItRefuses() {
+        PluggedBus bus = new PluggedBus();
+        bus.plug(0, 1, 9, 0);
+        check.due("after a refused plug: run", bus.run(1), 0);
+        check.due("after a refused plug: view", bus.view(0), Buses.NOTHING);
+        bus = Buses.withDisk(4, 0);
+        bus.plug(0, Buses.DISK, 4, 0);
+        check.due("a refused plug is no change", bus.run(1), 0);
+    }
+
+    private static void bringsBlocksOfZero() {
+        PluggedBus bus = Buses.withDisk(8, 0);
+        bus.write(0, 0, 4, 70);
+        bus.write(0, 4, 4, 80);
+        bus.run(1);
+        check.due("written", bus.image(0, 7), 83);
+        bus.unplug(0);
+        bus.plug(0, Buses.DISK, 8, 0);
+        for (int k = 0; k < 8; k++) {
+            check.due("a new disk's block " + k, bus.image(0, k), 0);
+        }
+    }
+
+    private static void bringsACodelessKeyboard() {
+        PluggedBus bus = Buses.withKeys(1, 1);
+        bus.press(0, 9);
+        bus.unplug(0);
+        bus.plug(0, Buses.KEYS, 1, 1);
+        check.due("new keys are enumerated and polled", bus.run(2), 7);
+        check.due("the old code is gone", bus.keys(), 0);
+    }
+
+    private static void marksOwnPort() {
+        PluggedBus bus = new PluggedBus();
+        bus.plug(1, Buses.DISK, 1, 0);
+        check.due("the host's view before a frame", bus.view(1), Buses.NOTHING);
+        check.due("enumerated in a frame", bus.run(1), 6);
+        check.due("then ready", bus.view(1), Buses.READY);
+        check.due("heard of once", bus.run(3), 0);
+    }
+
+    /** The host still sees port 2 READY, but the new device there hears nothing. */
+    private static void closesThePort() {
+        PluggedBus bus = Buses.withHubAnd(Buses.DISK, 4, 0);
+        bus.unplug(2);
+        bus.plug(2, Buses.DISK, 4, 0);
+        check.due("write to the exchanged disk", bus.write(2, 0, 1, 5), 0);
+        bus.spoil(1, Buses.TOKEN);
+        check.due("a lost poll and three faults", bus.run(1), 4);
+        check.due("the order", bus.order(0), 2);
+        check.due("the port", bus.view(2), Buses.FAULTS);
+        check.due("then the hub tells, and it is enumerated", bus.run(1), 7);
+        check.due("the new disk", bus.view(2), Buses.READY);
+        check.due("nothing was written", bus.image(2, 0), 0);
+    }
+}
