@@ -12,6 +12,8 @@ final class PlugTest {
         marksOwnPort();
         bringsACodelessKeyboard();
         closesThePort();
+        closesAPortThatIsOpenAndEmpty();
+        isSeenOnceTheHubIsConfigured();
         check.end();
     }
 
@@ -131,5 +133,35 @@ final class PlugTest {
         check.due("then the hub tells, and it is enumerated", bus.run(1), 7);
         check.due("the new disk", bus.view(2), Buses.READY);
         check.due("nothing was written", bus.image(2, 0), 0);
+    }
+
+    /** The hub's packet is made before port 3 is emptied; a loss at port 2 leaves two transactions for port 3. */
+    private static void closesAPortThatIsOpenAndEmpty() {
+        PluggedBus bus = Buses.withHub();
+        bus.plug(2, Buses.DISK, 1, 0);
+        bus.plug(3, Buses.DISK, 1, 0);
+        bus.spoil(1, Buses.DATA);
+        bus.run(1);
+        bus.unplug(3);
+        bus.spoil(2, Buses.TOKEN);
+        check.due("a poll, 7 for port 2, 2 for port 3", bus.run(1), 1 + 7 + 2);
+        check.due("port 3 is empty, but GOING", bus.view(3), Buses.GOING);
+        bus.plug(3, Buses.DISK, 1, 0);
+        bus.spoil(1, Buses.TOKEN);
+        check.due("a lost poll, the third fault", bus.run(1), 1 + 1);
+        check.due("the new device did not hear", bus.view(3), Buses.FAULTS);
+        check.due("a poll tells, enumeration", bus.run(1), 1 + 6);
+        check.due("then it does", bus.view(3), Buses.READY);
+    }
+
+    private static void isSeenOnceTheHubIsConfigured() {
+        for (int port = 2; port <= 5; port++) {
+            PluggedBus bus = new PluggedBus();
+            bus.plug(port / 2 - 1, Buses.HUB, 0, 0);
+            bus.plug(port, Buses.DISK, 1, 0);
+            check.due("the hub, a poll, port " + port, bus.run(2), 6 + 1 + 6);
+            check.due("view(" + port + ")", bus.view(port), Buses.READY);
+            check.due("the port beside it", bus.view(port ^ 1), Buses.NOTHING);
+        }
     }
 }

@@ -102,7 +102,7 @@ final class ViewTest {
         for (int port = 2; port <= 5; port++) {
             bus.plug(port, Buses.DISK, 1, 0);
         }
-        bus.run(5);
+        check.due("four enumerations, polls of two hubs from the third frame on", bus.run(5), 4 * 6 + 1 + 3 * 2);
         int[] views = {3, 3, 3, 3, 6, 6};
         for (int port = 0; port < 6; port++) {
             check.due("port " + port, bus.view(port), views[port]);
