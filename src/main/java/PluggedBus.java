@@ -822,7 +822,7 @@ public final class PluggedBus {
                 work = IDLE;
                 return 0;
             }
-            int number = blockAt(at);
+            int number = at >= 0 && at < MOST_BLOCKS ? content[at] : 0;
             at++;
             left--;
             return number;
