@@ -10,6 +10,7 @@ final class AddressTest {
         check.end();
     }
 
+    /** "0 for others, -1 when there is no such port." */
     private static void refusesOtherNumbers() {
         PluggedBus bus = Buses.withDisk(1, 0);
         int[] wrong = {-1, 6, Integer.MIN_VALUE, Integer.MAX_VALUE};
@@ -47,6 +48,7 @@ final class AddressTest {
         check.due("3 and 4 were free", bus.address(5), 3);
     }
 
+    /** "The address of a GOING or READY port". */
     private static void isThereWhileGoing() {
         PluggedBus bus = new PluggedBus();
         bus.plug(0, Buses.DISK, 1, 0);

@@ -5,9 +5,12 @@ final class ImageTest {
     public static void main(String[] args) {
         isZeroWhereThereIsNone();
         showsTheDisksOwnBlocks();
+        showsNothingOfALargerDiskThatWasThere();
+        needsNoHost();
         check.end();
     }
 
+    /** "0 when there is none." */
     private static void isZeroWhereThereIsNone() {
         PluggedBus bus = Buses.withDisk(2, 0);
         bus.write(0, 0, 2, 5);
@@ -25,6 +28,35 @@ final class ImageTest {
         check.due("unplugged", bus.image(0, 1), 0);
         bus.plug(0, Buses.KEYS, 1, 1);
         check.due("KEYS", bus.image(0, 1), 0);
+    }
+
+    private static void showsNothingOfALargerDiskThatWasThere() {
+        PluggedBus bus = Buses.withDisk(8, 0);
+        bus.write(0, 0, 4, 5);
+        bus.write(0, 4, 4, 9);
+        bus.run(1);
+        bus.unplug(0);
+        for (int blocks = 1; blocks <= 8; blocks++) {
+            bus.plug(0, Buses.DISK, blocks, 0);
+            for (int k = -1; k <= 8; k++) {
+                check.due("image(0, " + k + ") of " + blocks, bus.image(0, k), 0);
+            }
+            bus.unplug(0);
+        }
+    }
+
+    /** Also before the host knows of the disk, and in a port that failed. */
+    private static void needsNoHost() {
+        PluggedBus bus = Buses.withDisk(2, 0);
+        bus.write(0, 0, 2, 5);
+        bus.run(1);
+        bus.read(0, 0, 1);
+        Buses.spoilRow(bus, 1, 3, Buses.TOKEN);
+        bus.run(1);
+        check.due("FAULTS", bus.view(0), Buses.FAULTS);
+        check.due("image(0, 0)", bus.image(0, 0), 5);
+        check.due("image(0, 1)", bus.image(0, 1), 6);
+        check.due("image(0, 2)", bus.image(0, 2), 0);
     }
 
     /** The disk has its blocks whether or not the host still sees it. */

@@ -10,6 +10,7 @@ final class KeysTest {
         check.end();
     }
 
+    /** "How many KEYs the host has taken." */
     private static void countsWhatIsTaken() {
         PluggedBus bus = Buses.withKeys(2, 1);
         check.due("none", bus.keys(), 0);
@@ -30,6 +31,7 @@ final class KeysTest {
         check.due("and not again", bus.keys(), 2);
     }
 
+    /** "The KEY taken back keys before the latest one (0 .. 7)"; "-1 when there is none." */
     private static void tellsTheLatestEight() {
         PluggedBus bus = Buses.withKeys(1, 1);
         for (int code = 0; code < 21; code++) {
@@ -46,6 +48,7 @@ final class KeysTest {
         }
     }
 
+    /** "its code, plus 256 times its port". */
     private static void tellsThePort() {
         PluggedBus bus = new PluggedBus();
         bus.plug(1, Buses.HUB, 0, 0);

@@ -11,6 +11,7 @@ final class OrderTest {
         check.end();
     }
 
+    /** "-1 when there is none." */
     private static void refusesOtherNumbers() {
         PluggedBus bus = Buses.withDisk(1, 0);
         bus.read(0, 0, 1);
@@ -21,6 +22,7 @@ final class OrderTest {
         check.due("order(0)", bus.order(0), 0);
     }
 
+    /** "0 not over, 1 DONE, .. 3 GONE, 4 RANGE". */
     private static void tellsOfEachEnd() {
         PluggedBus bus = Buses.withDisk(2, 0);
         bus.write(0, 0, 2, 1);
@@ -36,6 +38,7 @@ final class OrderTest {
         check.due("GONE", bus.order(2), 3);
     }
 
+    /** "2 FAULTS". */
     private static void endsTheOrderInHandWithFaults() {
         PluggedBus bus = Buses.withTwoDisks();
         bus.read(0, 0, 1);

@@ -14,6 +14,8 @@ final class PlugTest {
         closesThePort();
         closesAPortThatIsOpenAndEmpty();
         isSeenOnceTheHubIsConfigured();
+        leavesTheDeviceOfAFullPortAsItIs();
+        leavesAPortThatIsNotThereAsItIs();
         check.end();
     }
 
@@ -21,6 +23,7 @@ final class PlugTest {
         check.due("plug(0, " + kind + ", " + a + ", " + b + ")", new PluggedBus().plug(0, kind, a, b), want);
     }
 
+    /** "a DISK with a blocks and delay b, KEYS with interval a and cost b, a HUB (a and b 0)." */
     private static void takesWhatIsAsSaid() {
         device(1, 1, 0, true);
         device(1, 8, 3, true);
@@ -29,6 +32,7 @@ final class PlugTest {
         device(3, 0, 0, true);
     }
 
+    /** "False .. when .. kind, a or b is not as said." */
     private static void refusesWhatIsNot() {
         device(1, 0, 0, false);
         device(1, 9, 0, false);
@@ -47,6 +51,7 @@ final class PlugTest {
         device(2, 1, Integer.MIN_VALUE, false);
     }
 
+    /** "False .. when there is no such port". */
     private static void knowsWhichPortsAreThere() {
         int[] never = {-1, 6, Integer.MIN_VALUE, Integer.MAX_VALUE};
         for (int port : never) {
@@ -69,6 +74,7 @@ final class PlugTest {
         check.due("a hub in port 0: port 3", bus.plug(3, 2, 1, 1), true);
     }
 
+    /** "False .. when .. it is not empty". */
     private static void refusesAFullPort() {
         PluggedBus bus = new PluggedBus();
         bus.plug(0, Buses.DISK, 2, 0);
@@ -79,6 +85,7 @@ final class PlugTest {
         check.due("still of 2 blocks", bus.order(0), 4);
     }
 
+    /** "False, changing nothing". */
     private static void changesNothingWhenItRefuses() {
         PluggedBus bus = new PluggedBus();
         bus.plug(0, 1, 9, 0);
@@ -89,6 +96,7 @@ final class PlugTest {
         check.due("a refused plug is no change", bus.run(1), 0);
     }
 
+    /** A new DISK's blocks are 0, whatever the one before it had. */
     private static void bringsBlocksOfZero() {
         PluggedBus bus = Buses.withDisk(8, 0);
         bus.write(0, 0, 4, 70);
@@ -102,6 +110,7 @@ final class PlugTest {
         }
     }
 
+    /** No code waits at KEYS that are new, whatever waited at those before them. */
     private static void bringsACodelessKeyboard() {
         PluggedBus bus = Buses.withKeys(1, 1);
         bus.press(0, 9);
@@ -111,6 +120,7 @@ final class PlugTest {
         check.due("the old code is gone", bus.keys(), 0);
     }
 
+    /** "Plugs a device of a kind into a port": the host hears of it in the next frame. */
     private static void marksOwnPort() {
         PluggedBus bus = new PluggedBus();
         bus.plug(1, Buses.DISK, 1, 0);
@@ -154,6 +164,45 @@ final class PlugTest {
         check.due("then it does", bus.view(3), Buses.READY);
     }
 
+    /** "False, changing nothing, when .. it is not empty": its port stays open, its blocks and its work stay. */
+    private static void leavesTheDeviceOfAFullPortAsItIs() {
+        PluggedBus bus = Buses.withHubAnd(Buses.DISK, 8, 3);
+        bus.write(2, 0, 4, 70);
+        bus.write(2, 4, 4, 74);
+        check.due("a poll, a full frame", bus.run(1), 1 + 12);
+        int[][] devices = {{1, 8, 3}, {1, 1, 0}, {2, 1, 1}, {3, 0, 0}};
+        for (int[] device : devices) {
+            check.due("a full port", bus.plug(2, device[0], device[1], device[2]), false);
+            check.due("the hub's port", bus.plug(0, device[0], device[1], device[2]), false);
+        }
+        check.due("a poll, the rest of the order", bus.run(1), 1 + 18 - 12);
+        check.due("DONE", bus.order(1), 1);
+        for (int k = 0; k < 8; k++) {
+            check.due("image(2, " + k + ")", bus.image(2, k), 70 + k);
+        }
+        bus = Buses.withKeys(1, 1);
+        bus.press(0, 3);
+        check.due("a full port", bus.plug(0, Buses.KEYS, 8, 60), false);
+        check.due("a poll", bus.run(1), 1);
+        check.due("the code is there still", bus.key(0), 3);
+        check.due("the cost, too", bus.load(), 1);
+    }
+
+    /** "False, changing nothing, when there is no such port": a hub that comes later finds its ports empty. */
+    private static void leavesAPortThatIsNotThereAsItIs() {
+        PluggedBus bus = new PluggedBus();
+        for (int port = 2; port < 6; port++) {
+            bus.plug(port, Buses.DISK, 1, 0);
+        }
+        bus.plug(0, Buses.HUB, 0, 0);
+        bus.plug(1, Buses.HUB, 0, 0);
+        check.due("two hubs, then polls", bus.run(4), 12 + 1 + 2 + 2);
+        for (int port = 2; port < 6; port++) {
+            check.due("unplug(" + port + ")", bus.unplug(port), false);
+        }
+    }
+
+    /** "Plugs a device of a kind into a port": of a HUB, before that is configured. */
     private static void isSeenOnceTheHubIsConfigured() {
         for (int port = 2; port <= 5; port++) {
             PluggedBus bus = new PluggedBus();

@@ -8,9 +8,12 @@ final class PressTest {
         keepsFour();
         countsOnlyWhatWaits();
         keepsTheCodesThatWaitOverAReset();
+        changesNothingWhenItRefuses();
+        refusesAgainWhenTheKeysAreGone();
         check.end();
     }
 
+    /** "false .. when there are none". */
     private static void refusesWhereThereAreNoKeys() {
         PluggedBus bus = Buses.withHub();
         bus.plug(1, Buses.DISK, 8, 0);
@@ -20,6 +23,7 @@ final class PressTest {
         }
     }
 
+    /** "A code (0 .. 255) waits at the KEYS in a port". */
     private static void takesCodes() {
         PluggedBus bus = new PluggedBus();
         bus.plug(1, Buses.KEYS, 1, 1);
@@ -33,6 +37,7 @@ final class PressTest {
         check.due("the second", bus.key(0), 256);
     }
 
+    /** "false .. when .. 4 wait". */
     private static void keepsFour() {
         PluggedBus bus = Buses.withKeys(1, 1);
         for (int code = 1; code <= 4; code++) {
@@ -50,6 +55,7 @@ final class PressTest {
         }
     }
 
+    /** What is held waits no more. */
     private static void countsOnlyWhatWaits() {
         PluggedBus bus = Buses.withKeys(1, 1);
         for (int code = 1; code <= 4; code++) {
@@ -65,6 +71,33 @@ final class PressTest {
         bus.run(1);
         check.due("the held one comes", bus.key(0), 1);
         check.due("none was made in its place", bus.press(0, 6), false);
+    }
+
+    /** "false, changing nothing, when there are none, 4 wait, or the code is not as said." */
+    private static void changesNothingWhenItRefuses() {
+        int[] wrong = {-1, 256, 257, 512, -256, Integer.MIN_VALUE, Integer.MAX_VALUE};
+        PluggedBus bus = Buses.withKeys(1, 1);
+        for (int code : wrong) {
+            check.due("press(0, " + code + ")", bus.press(0, code), false);
+        }
+        bus.run(3);
+        check.due("none of them comes", bus.keys(), 0);
+        for (int code = 1; code <= 8; code++) {
+            check.due("press(0, " + code + ")", bus.press(0, code), code <= 4);
+        }
+        bus.run(10);
+        check.due("the first four come", bus.keys(), 4);
+        check.due("the last of them", bus.key(0), 4);
+    }
+
+    private static void refusesAgainWhenTheKeysAreGone() {
+        PluggedBus bus = Buses.withHubAnd(Buses.KEYS, 1, 1);
+        check.due("keys behind a hub", bus.press(2, 1), true);
+        check.due("beside them", bus.press(3, 1), false);
+        bus.unplug(2);
+        check.due("unplugged", bus.press(2, 1), false);
+        bus.plug(2, Buses.DISK, 1, 0);
+        check.due("a disk in their place", bus.press(2, 1), false);
     }
 
     /** What the keyboard held when it is enumerated again is gone, what waited stays. */

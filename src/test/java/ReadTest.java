@@ -11,9 +11,12 @@ final class ReadTest {
         readsInOrder();
         readsWhatIsThereWhenThePacketIsMade();
         waitsForTheDelay();
+        needsAllItsBlocks();
+        refusesPortsThatAreNotThere();
         check.end();
     }
 
+    /** "-1 when a number is not as said". */
     private static void refusesOtherNumbers() {
         PluggedBus bus = Buses.withDisk(8, 0);
         int[][] wrong = {{-1, 0, 1}, {6, 0, 1}, {Integer.MIN_VALUE, 0, 1}, {Integer.MAX_VALUE, 0, 1}, {0, -1, 1},
@@ -28,6 +31,7 @@ final class ReadTest {
         check.due("order(1)", bus.order(1), 0);
     }
 
+    /** "-1 when .. the host does not see the port READY as a DISK." */
     private static void needsADiskThatIsReady() {
         PluggedBus bus = new PluggedBus();
         bus.plug(0, Buses.DISK, 8, 0);
@@ -47,6 +51,7 @@ final class ReadTest {
         check.due("failed", bus.read(0, 0, 1), -1);
     }
 
+    /** "among those that the host knows of (from describe)": also of a DISK that is there no more. */
     private static void believesTheHostsView() {
         PluggedBus bus = Buses.withDisk(2, 0);
         bus.unplug(0);
@@ -60,6 +65,7 @@ final class ReadTest {
         check.due("are enough", bus.order(2), 0);
     }
 
+    /** "the order (one of the 16, too) ends at once with RANGE." */
     private static void endsWithRange() {
         for (int blocks = 1; blocks <= 8; blocks++) {
             PluggedBus bus = Buses.withDisk(blocks, 0);
@@ -72,6 +78,29 @@ final class ReadTest {
         }
     }
 
+    /** "If not all these blocks are among those that the host knows of (from describe)". */
+    private static void needsAllItsBlocks() {
+        for (int blocks = 1; blocks <= 8; blocks++) {
+            for (int block = 0; block < 8; block++) {
+                PluggedBus bus = Buses.withDisk(blocks, 0);
+                for (int count = 1; count <= 4; count++) {
+                    check.due("read(0, " + block + ", " + count + ")", bus.read(0, block, count), count - 1);
+                    check.due("of " + blocks, bus.order(count - 1), block + count <= blocks ? 0 : 4);
+                }
+            }
+        }
+    }
+
+    private static void refusesPortsThatAreNotThere() {
+        PluggedBus bus = Buses.withDisk(8, 0);
+        for (int port = 1; port < 6; port++) {
+            check.due("read(" + port + ", 0, 1)", bus.read(port, 0, 1), -1);
+            check.due("write(" + port + ", 0, 1, 1)", bus.write(port, 0, 1, 1), -1);
+        }
+        check.due("none of them is an order", bus.order(0), -1);
+    }
+
+    /** "-1 when .. there were 16 orders". */
     private static void isOneOfSixteen() {
         PluggedBus bus = Buses.withDisk(1, 0);
         for (int k = 0; k < 16; k++) {

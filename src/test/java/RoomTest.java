@@ -30,7 +30,7 @@ final class RoomTest {
 
     /** Every call of the face, again and again, with numbers that are as said and others. */
     private static void callAll(PluggedBus bus) {
-        for (int i = 0; i < CALLS / 16; i++) {
+        for (int i = 0; i < CALLS / 17; i++) {
             int port = i * 7 % 8 - 1;
             bus.plug(port, 1 + i % 3, i % 3 == 2 ? 0 : 1 + i % 8, i % 3 == 2 ? 0 : 1 + i % 3);
             if (i % 5 == 4) {

@@ -19,6 +19,7 @@ final class RunTest {
         check.end();
     }
 
+    /** "Makes n frames (1 .. 40)"; "-1, making none, for another n." */
     private static void takesOneToForty() {
         int[] wrong = {0, 41, -1, Integer.MIN_VALUE, Integer.MAX_VALUE};
         for (int n : wrong) {
@@ -29,8 +30,9 @@ final class RunTest {
             check.due("and no transaction", bus.transactions(), 0);
         }
         PluggedBus bus = Buses.withKeys(1, 1);
-        check.due("run(1)", bus.run(1), 1);
-        check.due("run(40)", bus.run(40), 40);
+        for (int n = 1; n <= 40; n++) {
+            check.due("run(" + n + ")", bus.run(n), n);
+        }
     }
 
     private static void enumeratesTenTransactionsAFrame() {

@@ -1,7 +1,9 @@
 /** Long runs of calls with numbers that are as said and others: no call throws, and what must always hold does. */
 final class SoakTest {
-    private static final int OBJECTS = 400;
-    private static final int CALLS = 512;
+    private static final int OBJECTS = 4000;
+    /** With the looks, fewer than the 512 calls that an object is used for. */
+    private static final int CALLS = 180;
+    private static final int CALLS_BETWEEN_LOOKS = 30;
     private static final int[] ODD = {-1, 6, 8, 41, 256, Integer.MIN_VALUE, Integer.MAX_VALUE};
 
     private final Check check;
@@ -21,7 +23,9 @@ final class SoakTest {
             SoakTest test = new SoakTest(check, i);
             for (int k = 0; k < CALLS; k++) {
                 test.callSomething();
-                test.lookAtAll();
+                if (k % CALLS_BETWEEN_LOOKS == CALLS_BETWEEN_LOOKS - 1) {
+                    test.lookAtAll();
+                }
             }
         }
         check.end();

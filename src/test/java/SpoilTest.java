@@ -5,7 +5,10 @@ final class SpoilTest {
     public static void main(String[] args) {
         refusesOtherNumbers();
         countsFromNow();
+        countsEachOfTheForty();
         reachesFortyAhead();
+        losesOnlyThatOne();
+        namesTheSameOneLater();
         standsInPlaceOfWhatWasSaid();
         changesNothingWhenItRefuses();
         spoilsSetups();
@@ -18,6 +21,7 @@ final class SpoilTest {
         check.end();
     }
 
+    /** "False .. when a number is not as said." */
     private static void refusesOtherNumbers() {
         PluggedBus bus = new PluggedBus();
         int[] wrongAheads = {0, 41, -1, Integer.MIN_VALUE, Integer.MAX_VALUE};
@@ -34,6 +38,7 @@ final class SpoilTest {
         }
     }
 
+    /** "the k-th transaction from now on". */
     private static void countsFromNow() {
         PluggedBus bus = Buses.withKeys(1, 1);
         bus.press(0, 1);
@@ -47,6 +52,62 @@ final class SpoilTest {
         check.due("the third one is not", bus.keys(), 2);
     }
 
+    /** "the k-th transaction from now on (1 .. 40) is lost". */
+    private static void countsEachOfTheForty() {
+        for (int k = 1; k <= 40; k++) {
+            PluggedBus bus = Buses.withKeys(1, 1);
+            check.due("spoil(" + k + ", 1)", bus.spoil(k, Buses.DATA), true);
+            if (k > 1) {
+                bus.run(k - 1);
+            }
+            bus.press(0, 1);
+            bus.run(1);
+            check.due("transaction " + k, bus.keys(), 0);
+            bus.run(1);
+            check.due("the next one", bus.keys(), 1);
+        }
+    }
+
+    /** Each of 40 polls brings a code, but for the one that is lost, whose code the next one brings. */
+    private static void losesOnlyThatOne() {
+        for (int k = 1; k <= 40; k += 13) {
+            PluggedBus bus = Buses.withKeys(1, 1);
+            bus.spoil(k, Buses.TOKEN);
+            for (int i = 1; i <= 82; i++) {
+                bus.press(0, i);
+                bus.run(1);
+                check.due("spoil(" + k + ", 0), poll " + i, bus.keys(), i < k ? i : i - 1);
+            }
+        }
+    }
+
+    /** "In place of what was said of that one before": also when it was farther ahead then. */
+    private static void namesTheSameOneLater() {
+        for (int made = 0; made < 40; made++) {
+            PluggedBus bus = Buses.withKeys(1, 1);
+            bus.spoil(40, Buses.DATA);
+            if (made > 0) {
+                bus.run(made);
+            }
+            bus.spoil(40 - made, Buses.NO_PART);
+            if (made < 39) {
+                bus.run(39 - made);
+            }
+            bus.press(0, 1);
+            bus.run(1);
+            check.due("taken back after " + made, bus.keys(), 1);
+        }
+        PluggedBus bus = Buses.withKeys(1, 1);
+        bus.spoil(3, Buses.TOKEN);
+        bus.run(1);
+        bus.spoil(2, Buses.HANDSHAKE);
+        bus.run(1);
+        bus.press(0, 1);
+        bus.run(1);
+        check.due("the handshake in place of the token", bus.keys(), 1);
+    }
+
+    /** What was said of one transaction is not said of the one 40 behind it. */
     private static void reachesFortyAhead() {
         PluggedBus bus = Buses.withKeys(1, 1);
         bus.run(7);
@@ -63,6 +124,7 @@ final class SpoilTest {
         check.due("nor the 80th", bus.keys(), 2);
     }
 
+    /** "part 3: nothing of it. In place of what was said of that one before." */
     private static void standsInPlaceOfWhatWasSaid() {
         PluggedBus bus = new PluggedBus();
         bus.plug(0, Buses.DISK, 1, 0);
@@ -78,6 +140,7 @@ final class SpoilTest {
         check.due("the handshake in place of the token", bus.keys(), 1);
     }
 
+    /** "False, changing nothing". */
     private static void changesNothingWhenItRefuses() {
         PluggedBus bus = Buses.withKeys(1, 1);
         bus.press(0, 5);

@@ -13,6 +13,7 @@ final class TermEnumerationTest {
         itFailsWithAddressesWithoutATransaction();
         itBeginsWithAFourthAddress();
         aPortThatIsEmptyIsResetToo();
+        aResetTakesTheAddressThatADeviceHad();
         aResetSetsTheTogglesOfKeys();
         aResetTakesWhatKeysHold();
         aResetLeavesTheCodesThatWait();
@@ -181,6 +182,37 @@ final class TermEnumerationTest {
         check.due("a poll, three faults", bus.run(1), 1 + 3);
         check.due("port 2", bus.view(2), Buses.FAULTS);
         check.due("its address is free", bus.address(2), 0);
+    }
+
+    /**
+     * "the device in it, if any, has address 0, .. listens to 0": port 2 fails with address 3, port 3 gets it, and the
+     * hub tells of port 2 again. Two lost tokens leave port 2 GOING, reset and without a new address, when port 3 is
+     * polled.
+     */
+    private static void aResetTakesTheAddressThatADeviceHad() {
+        PluggedBus bus = Buses.withHub();
+        bus.plug(1, Buses.KEYS, 1, 26);
+        bus.run(1);
+        bus.plug(2, Buses.DISK, 1, 0);
+        bus.plug(3, Buses.KEYS, 1, 10);
+        bus.spoil(1, Buses.DATA);
+        check.due("two polls", bus.run(1), 2);
+        bus.unplug(2);
+        bus.plug(2, Buses.DISK, 1, 0);
+        Buses.spoilRow(bus, 5, 3, Buses.HANDSHAKE);
+        check.due("two polls, 5 of port 2, 2 of port 3", bus.run(1), 2 + 5 + 2);
+        check.due("port 2", bus.view(2), Buses.FAULTS);
+        check.due("port 3's address", bus.address(3), 3);
+        bus.spoil(3, Buses.TOKEN);
+        Buses.spoilRow(bus, 8, 2, Buses.TOKEN);
+        check.due("two polls, 5 of port 3, 2 of port 2", bus.run(1), 2 + 5 + 2);
+        check.due("port 3", bus.view(3), Buses.READY);
+        check.due("port 2", bus.view(2), Buses.GOING);
+        check.due("port 2's address", bus.address(2), 4);
+        bus.press(3, 7);
+        check.due("three polls, 6 of port 2", bus.run(1), 3 + 6);
+        check.due("port 3 was polled", bus.key(0), 3 * 256 + 7);
+        check.due("port 2", bus.view(2), Buses.READY);
     }
 
     /** "its toggles and BUSY are 0, it holds nothing": after one key both sides' toggles are 1. */

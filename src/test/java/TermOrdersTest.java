@@ -29,8 +29,9 @@ final class TermOrdersTest {
         PluggedBus bus = Buses.withTwoDisks();
         for (int k = 0; k < 16; k++) {
             check.due("no order yet", bus.order(k), -1);
-            int number = k % 3 == 0 ? bus.read(k % 2, 0, 1) : k % 3 == 1 ? bus.write(k % 2, 0, 1, k) : bus.read(0, 7, 2);
-            check.due("order", number, k);
+            int port = k % 2;
+            int block = k % 3 == 2 ? 7 : 0;
+            check.due("order", k % 4 < 2 ? bus.read(port, block, 2) : bus.write(port, block, 2, k), k);
         }
         check.due("a 17th read", bus.read(0, 0, 1), -1);
         check.due("a 17th write", bus.write(1, 0, 1, 1), -1);

@@ -133,7 +133,7 @@ final class TermPortsTest {
         check.due("and a fifth again", bus.press(0, 4), false);
     }
 
-    /** "A port is CLOSED or OPEN, closed when a device is plugged in." The hub's packet is lost, so the host polls on. */
+    /** "A port is CLOSED or OPEN, closed when a device is plugged in." The hub's packet is lost: the host polls on. */
     private static void aPortIsClosedWhenADeviceIsPluggedIn() {
         PluggedBus bus = Buses.withHubAnd(Buses.KEYS, 1, 1);
         bus.unplug(2);

@@ -480,7 +480,7 @@ final class TermTransactionsTest {
         check.due("the order", bus.order(0), 1);
     }
 
-    /** "FAULTS one after the other are counted for enumeration, and for each device's polls": two and two are not four. */
+    /** "FAULTS one after the other are counted .. for each device's polls": two and two are not four. */
     private static void faultsAreCountedForEachKeyboard() {
         PluggedBus bus = Buses.withKeys(1, 1);
         bus.plug(1, Buses.KEYS, 1, 1);

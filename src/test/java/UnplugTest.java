@@ -13,6 +13,7 @@ final class UnplugTest {
         check.end();
     }
 
+    /** "False when there is none." */
     private static void refusesWhereThereIsNone() {
         int[] ports = {-1, 0, 1, 2, 3, 4, 5, 6, Integer.MIN_VALUE, Integer.MAX_VALUE};
         PluggedBus bus = new PluggedBus();
@@ -22,6 +23,7 @@ final class UnplugTest {
         check.due("nothing has changed", bus.run(1), 0);
     }
 
+    /** "Takes the device out of a port". */
     private static void takesTheDeviceOut() {
         PluggedBus bus = Buses.withDisk(4, 0);
         bus.write(0, 0, 1, 6);
@@ -35,6 +37,7 @@ final class UnplugTest {
         check.due("the port can be used again", bus.plug(0, Buses.KEYS, 1, 1), true);
     }
 
+    /** "a HUB with the devices in its ports". */
     private static void takesAHubWithItsDevices() {
         PluggedBus bus = Buses.withHub();
         bus.plug(2, Buses.DISK, 4, 0);
@@ -42,7 +45,11 @@ final class UnplugTest {
         bus.run(2);
         check.due("port 2", bus.view(2), Buses.READY);
         check.due("port 3", bus.view(3), Buses.READY);
+        bus.write(2, 0, 1, 5);
+        bus.run(1);
+        check.due("its block", bus.image(2, 0), 5);
         check.due("unplug(0)", bus.unplug(0), true);
+        check.due("no block", bus.image(2, 0), 0);
         check.due("no device in port 2", bus.unplug(2), false);
         check.due("no keys in port 3", bus.press(3, 1), false);
         check.due("the host's view stays", bus.view(3), Buses.READY);
@@ -54,6 +61,7 @@ final class UnplugTest {
         check.due("the hub alone costs", bus.load(), 4);
     }
 
+    /** A configured HUB tells of it. */
     private static void isToldByTheHub() {
         PluggedBus bus = Buses.withHubAnd(Buses.DISK, 4, 0);
         check.due("unplug(2)", bus.unplug(2), true);
@@ -63,6 +71,7 @@ final class UnplugTest {
         check.due("its address is free", bus.address(2), 0);
     }
 
+    /** A HUB that is not configured does not. */
     private static void isNotToldByAHubThatIsNotConfigured() {
         PluggedBus bus = new PluggedBus();
         bus.plug(0, Buses.HUB, 0, 0);
@@ -75,6 +84,7 @@ final class UnplugTest {
         check.due("the hub has nothing more to tell", bus.run(1), 1);
     }
 
+    /** Another device in its place is a change, too. */
     private static void isToldAsChangedAndFullAfterAnExchange() {
         PluggedBus bus = Buses.withHubAnd(Buses.DISK, 8, 0);
         bus.unplug(2);
@@ -88,6 +98,7 @@ final class UnplugTest {
         check.due("the new device's cost in port 0", bus.load(), 7);
     }
 
+    /** "a HUB with the devices in its ports": in its own ports alone. */
     private static void takesOnlyTheDeviceBehindAHub() {
         PluggedBus bus = Buses.withHub();
         bus.plug(1, Buses.HUB, 0, 0);

@@ -15,6 +15,7 @@ final class ViewTest {
         check.end();
     }
 
+    /** "-1 for another number." */
     private static void refusesOtherNumbers() {
         PluggedBus bus = Buses.withHub();
         int[] wrong = {-1, 6, Integer.MIN_VALUE, Integer.MAX_VALUE};
@@ -170,6 +171,7 @@ final class ViewTest {
         check.due("plugged", bus.view(2), Buses.READY);
     }
 
+    /** "also one whose hub is not there: mostly NOTHING". */
     private static void followsTheHub() {
         PluggedBus bus = Buses.withHub();
         bus.plug(2, Buses.DISK, 1, 0);
